@@ -24,7 +24,6 @@ public final class SliceWhy {
 
     // The END has the bit behind those of all PLACES that can be, however many there are now.
     private static final int END = MOST_PLACES;
-    private static final int PLACE_BITS = (1 << MOST_PLACES) - 1;
 
     private final Program program = new Program();
     private final Reasons reasons = new Reasons();
@@ -584,7 +583,7 @@ public final class SliceWhy {
         private final int[] hangsThin = new int[MOST_PLACES];
         private final int[] back = new int[MOST_PLACES];
         private final int[] thin = new int[MOST_PLACES];
-        // PLACES by how many steps the WAY from them has to the PLACE that is looked for.
+        // PLACES from which so many steps from one to a CAUSE of it can lead to the last one of a WAY.
         private final int[] away = new int[MOST_PLACES];
 
         int backOf(int p) {
@@ -642,22 +641,25 @@ public final class SliceWhy {
             return distance + 1;
         }
 
+        /** Fills away up to the first distance at which v is met. */
         private int measureWays(int v, int u) {
             away[0] = 1 << u;
-            int met = away[0];
             int distance = 0;
-            while (!holds(met, v) && distance < MOST_PLACES - 1) {
-                int reached = 0;
-                for (int p = 0; p < size; p++) {
-                    if ((hangsAtAll[p] & away[distance]) != 0) {
-                        reached |= 1 << p;
-                    }
-                }
+            while (!holds(away[distance], v) && distance < MOST_PLACES - 1) {
                 distance++;
-                away[distance] = reached & ~met;
-                met |= reached;
+                away[distance] = allThatHangOn(away[distance - 1]);
             }
             return distance;
+        }
+
+        private int allThatHangOn(int set) {
+            int found = 0;
+            for (int p = 0; p < size; p++) {
+                if ((hangsAtAll[p] & set) != 0) {
+                    found |= 1 << p;
+                }
+            }
+            return found;
         }
 
         private static int leastOf(int set) {
@@ -786,7 +788,7 @@ public final class SliceWhy {
         }
 
         private void findHangingByControl(int u) {
-            int led = widerNexts[u] & PLACE_BITS;
+            int led = widerNexts[u];
             for (int s = 0; s < size; s++) {
                 if (holds(widerNexts[u], s)) {
                     led |= followers[s];
@@ -802,13 +804,13 @@ public final class SliceWhy {
 
         /** PLACES to which a way of one or more NEXTS leads from u with no PLACE of stops between. */
         private int reachedFrom(int u, int stops) {
-            int found = nexts[u] & PLACE_BITS;
+            int found = nexts[u];
             int before = 0;
             for (int round = 0; found != before && round <= MOST_PLACES; round++) {
                 before = found;
                 for (int p = 0; p < size; p++) {
                     if (holds(found & ~stops, p)) {
-                        found |= nexts[p] & PLACE_BITS;
+                        found |= nexts[p];
                     }
                 }
             }

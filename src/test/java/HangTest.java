@@ -3,6 +3,7 @@ public final class HangTest {
     public static void main(String[] args) {
         registersAreSetBetween();
         aPlaceHangsOnItself();
+        waysThroughTheFirstPlace();
         eachKindReadsAndSets();
         namesOfOneRow();
         noPutStandsInTheWay();
@@ -53,6 +54,17 @@ public final class HangTest {
         dueCauses("no loop", y, 0);
         SliceWhy z = Checks.program(Checks.l(Checks.IF, 0, 0));
         dueCauses("IF to itself", z, 0, 0, 4);
+    }
+
+    private static void waysThroughTheFirstPlace() {
+        SliceWhy x = Checks.program(Checks.l(Checks.PASS), Checks.l(Checks.ADD, 1, 2, 2), Checks.l(Checks.NUMBER, 2, 7),
+            Checks.l(Checks.GO, 0, 0));
+        dueCauses("it leads through", x, 1, 2, 1, 3, 4);
+        x.change(0, Checks.NUMBER, 2, 0, 0);
+        dueCauses("it is set there", x, 1, 0, 1, 3, 4);
+        x.change(0, Checks.GET, 1, 2, 0);
+        x.change(2, Checks.PUT, 2, 2, 0);
+        dueCauses("it GETS there", x, 0, 2, 2, 3, 4);
     }
 
     /** PLACES 0 to 2 set r 1, r 2, r 3 (or GLOBAL 1); PLACE 3 is of the kind; PLACE 4 reads r 1. */
@@ -134,6 +146,10 @@ public final class HangTest {
         dueCauses("set first", x, 4, 1, 3);
         dueCauses("not set", x, 5);
         dueCauses("GLOBAL 1 is no REGISTER 1", x, 6, 4, 1, 5, 1);
+        for (int g = 0; g < 4; g++) {
+            SliceWhy y = Checks.program(Checks.l(Checks.SET, 0, g), Checks.l(Checks.USE, 1, g), Checks.l(Checks.ADD, 2, g, g));
+            dueCauses("GLOBAL " + g, y, 1, 0, 3);
+        }
     }
 
     private static void failuresLeadToTheEnd() {
@@ -166,6 +182,9 @@ public final class HangTest {
         Checks.due("BACK with the jump", x.slice(2, 0), Checks.set(0, 1, 2));
         x.change(0, Checks.GO, 0, 1, 0);
         dueCauses("a jump to the place behind", x, 1);
+        SliceWhy y = Checks.program(Checks.l(Checks.GO, 0, 3), Checks.l(Checks.PASS), Checks.l(Checks.PASS), Checks.l(Checks.PASS));
+        dueCauses("jumped over, too", y, 2, 0, 4);
+        dueCauses("jumped to", y, 3);
     }
 
     private static void branches() {
@@ -268,6 +287,8 @@ public final class HangTest {
         Checks.due("24 places", y.way(23, 0), 24);
         Checks.due("the last", y.on(23), 0);
         Checks.due("before the last", y.on(22), 1);
+        y.change(23, Checks.GO, 0, 0, 0);
+        dueWay(y, 0, 23, 0, 23);
         SliceWhy z = Checks.program(Checks.l(Checks.ADD, 0, 0, 0), Checks.l(Checks.GO, 0, 0));
         dueWay(z, 0, 0, 0);
         dueWay(z, 0, 1, 0, 1);

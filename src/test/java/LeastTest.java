@@ -126,5 +126,11 @@ public final class LeastTest {
         x.test();
         Checks.due("BACK", x.slice(4, 0), 31);
         Checks.due("least", x.least(4), Checks.set(0, 2, 4));
+        // The last PLACE of all is one of BACK, too, where a loop leads from it to p.
+        SliceWhy y = Checks.program(Checks.l(Checks.ADD, 0, 0, 1), Checks.l(Checks.INPUT, 2, 0), Checks.l(Checks.IF, 2, 5),
+            Checks.l(Checks.NUMBER, 1, 6), Checks.l(Checks.GO, 0, 0));
+        y.test();
+        Checks.due("BACK", y.slice(0, 0), 31);
+        Checks.due("least", y.least(0), 1);
     }
 }

@@ -1,8 +1,8 @@
 import java.util.Random;
 
-/** All promises: runs of calls, the same each time, that SliceWhy answers as SlowSlice does. */
+/** All promises: runs of up to 512 calls, the same each time, that SliceWhy answers as SlowSlice does. */
 public final class RandomCallsTest {
-    private static final int OBJECTS = 250, CALLS = 400;
+    private static final int OBJECTS = 400, CALLS = 512, MOST_AT_ONCE = 8;
     private static final int[] FAR = {Integer.MIN_VALUE, -5, -4, -1, 24, 25, 31, 32, Integer.MAX_VALUE};
 
     private final Random random;
@@ -10,6 +10,7 @@ public final class RandomCallsTest {
     private final SlowSlice slow = new SlowSlice();
     private final int object;
     private final int most;
+    private int calls = 0;
 
     private RandomCallsTest(int object) {
         this.object = object;
@@ -24,7 +25,7 @@ public final class RandomCallsTest {
             for (int p = 0; p < one.most; p++) {
                 one.addLine();
             }
-            for (int call = one.most; call < CALLS; call++) {
+            while (one.calls <= CALLS - MOST_AT_ONCE) {
                 one.anyCall();
             }
         }
@@ -32,6 +33,7 @@ public final class RandomCallsTest {
     }
 
     private void due(String call, int got, int want) {
+        calls++;
         Checks.due("object " + object + ": " + call, got, want);
     }
 

@@ -6,6 +6,7 @@ public final class RunTest {
         arithmetic();
         share();
         items();
+        itemsOfEachRow();
         rowsByInputThree();
         globals();
         failingGlobals();
@@ -73,6 +74,30 @@ public final class RunTest {
             x.run(Checks.NONE, 4);
             Checks.due("items are 0 in the next run", x.saw(0), 0);
         }
+    }
+
+    /** PUTS one number into each item of each ROW, and finds it there alone, and nowhere in the next RUN. */
+    private static void itemsOfEachRow() {
+        for (int put = 0; put < 32; put++) {
+            SliceWhy x = Checks.program(Checks.l(Checks.INPUT, 0, 0), Checks.l(Checks.INPUT, 1, 1), Checks.l(Checks.NUMBER, 2, 50),
+                Checks.l(Checks.PUT, 2, 0, 0), Checks.l(Checks.GET, 3, 1, 1));
+            x.points(0, 1 << put / 8);
+            x.input(0, put % 8);
+            for (int get = 0; get < 32; get++) {
+                dueItem(x, put, get);
+            }
+            dueItem(x, put, put);
+            x.change(3, Checks.PASS, 0, 0, 0);
+            x.run(Checks.NONE, 4);
+            Checks.due("item " + put + " in the next run", x.saw(0), 0);
+        }
+    }
+
+    private static void dueItem(SliceWhy x, int put, int get) {
+        x.points(1, 1 << get / 8);
+        x.input(1, get % 8);
+        x.run(Checks.NONE, 4);
+        Checks.due("item " + get + " with " + put + " put", x.saw(0), put == get ? 50 : 0);
     }
 
     private static void rowsByInputThree() {
