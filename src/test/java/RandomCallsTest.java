@@ -1,9 +1,9 @@
 import java.util.Random;
 
 /** All promises: runs of up to 512 calls, the same each time, that SliceWhy answers as SlowSlice does. */
-public final class RandomCallsTest {
+public final class RandomCallsTest extends Checks {
     private static final int OBJECTS = 400, CALLS = 512, MOST_AT_ONCE = 8;
-    private static final int[] FAR = {Integer.MIN_VALUE, -5, -4, -1, 24, 25, 31, 32, Integer.MAX_VALUE};
+    private static final int[] FAR = {MIN, -5, -4, -1, 24, 25, 31, 32, MAX};
 
     private final Random random;
     private final SliceWhy x = new SliceWhy();
@@ -29,12 +29,12 @@ public final class RandomCallsTest {
                 one.anyCall();
             }
         }
-        Checks.end("RandomCallsTest");
+        end("RandomCallsTest");
     }
 
-    private void due(String call, int got, int want) {
+    private void agree(String call, int got, int want) {
         calls++;
-        Checks.due("object " + object + ": " + call, got, want);
+        due("object " + object + ": " + call, got, want);
     }
 
     /** Mostly below the limit, now and then anywhere. */
@@ -79,7 +79,7 @@ public final class RandomCallsTest {
 
     private void addLine() {
         int[] l = anyLine();
-        due("line(" + l[0] + ", " + l[1] + ", " + l[2] + ", " + l[3] + ")", x.line(l[0], l[1], l[2], l[3]),
+        agree("line(" + l[0] + ", " + l[1] + ", " + l[2] + ", " + l[3] + ")", x.line(l[0], l[1], l[2], l[3]),
             slow.line(l[0], l[1], l[2], l[3]));
     }
 
@@ -99,33 +99,33 @@ public final class RandomCallsTest {
             case 0 -> {
                 int[] l = anyLine();
                 int p = place();
-                due("change(" + p + ", " + l[0] + ")", x.change(p, l[0], l[1], l[2], l[3]), slow.change(p, l[0], l[1], l[2], l[3]));
+                agree("change(" + p + ", " + l[0] + ")", x.change(p, l[0], l[1], l[2], l[3]), slow.change(p, l[0], l[1], l[2], l[3]));
             }
             case 1 -> {
                 if (random.nextInt(3) == 0) {
-                    due("drop()", x.drop(), slow.drop());
+                    agree("drop()", x.drop(), slow.drop());
                 }
             }
             case 2 -> {
                 int g = number(4);
                 int n = value();
                 boolean fails = random.nextInt(3) == 0;
-                due("start(" + g + ")", x.start(g, n, fails), slow.start(g, n, fails));
+                agree("start(" + g + ")", x.start(g, n, fails), slow.start(g, n, fails));
             }
             case 3 -> {
                 int name = number(4);
                 int rows = number(16);
-                due("points(" + name + ", " + rows + ")", x.points(name, rows), slow.points(name, rows));
+                agree("points(" + name + ", " + rows + ")", x.points(name, rows), slow.points(name, rows));
             }
-            case 4 -> due("test()", x.test(), slow.test());
+            case 4 -> agree("test()", x.test(), slow.test());
             case 5 -> {
                 if (random.nextInt(3) == 0) {
-                    due("untest()", x.untest(), slow.untest());
+                    agree("untest()", x.untest(), slow.untest());
                 }
             }
             case 6 -> {
                 int what = number(4);
-                due("count(" + what + ")", x.count(what), slow.count(what));
+                agree("count(" + what + ")", x.count(what), slow.count(what));
             }
             case 7 -> {
                 if (slow.count(0) < most || random.nextInt(6) == 0) {
@@ -135,7 +135,7 @@ public final class RandomCallsTest {
             default -> {
                 int k = number(4);
                 int v = value();
-                due("input(" + k + ", " + v + ")", x.input(k, v), slow.input(k, v));
+                agree("input(" + k + ", " + v + ")", x.input(k, v), slow.input(k, v));
             }
         }
     }
@@ -145,29 +145,29 @@ public final class RandomCallsTest {
             case 0, 1 -> {
                 int of = random.nextBoolean() ? -4 : place();
                 int w = place();
-                due("run(" + of + ", " + w + ")", x.run(of, w), slow.run(of, w));
-                due("seen()", x.seen(), slow.seen());
+                agree("run(" + of + ", " + w + ")", x.run(of, w), slow.run(of, w));
+                agree("seen()", x.seen(), slow.seen());
                 for (int k = 0; k < 4; k++) {
-                    due("saw(" + k + ")", x.saw(k), slow.saw(k));
+                    agree("saw(" + k + ")", x.saw(k), slow.saw(k));
                 }
             }
             case 2 -> {
                 int k = number(100);
-                due("saw(" + k + ")", x.saw(k), slow.saw(k));
+                agree("saw(" + k + ")", x.saw(k), slow.saw(k));
             }
             case 3 -> {
                 int what = number(10);
-                due("left(" + what + ")", x.left(what), slow.left(what));
+                agree("left(" + what + ")", x.left(what), slow.left(what));
             }
             case 4 -> {
                 int p = place();
-                due("same(" + p + ")", x.same(p), slow.same(p));
+                agree("same(" + p + ")", x.same(p), slow.same(p));
             }
             case 5 -> {
                 int p = place();
-                due("least(" + p + ")", x.least(p), slow.least(p));
+                agree("least(" + p + ")", x.least(p), slow.least(p));
             }
-            default -> due("seen()", x.seen(), slow.seen());
+            default -> agree("seen()", x.seen(), slow.seen());
         }
     }
 
@@ -176,24 +176,24 @@ public final class RandomCallsTest {
         switch (which) {
             case 0, 1 -> {
                 int way = number(4);
-                due("slice(" + p + ", " + way + ")", x.slice(p, way), slow.slice(p, way));
+                agree("slice(" + p + ", " + way + ")", x.slice(p, way), slow.slice(p, way));
             }
-            case 2 -> due("follows(" + p + ")", x.follows(p), slow.follows(p));
-            case 3 -> due("causes(" + p + ")", x.causes(p), slow.causes(p));
+            case 2 -> agree("follows(" + p + ")", x.follows(p), slow.follows(p));
+            case 3 -> agree("causes(" + p + ")", x.causes(p), slow.causes(p));
             case 4, 5 -> {
                 int k = number(6);
                 int what = number(2);
-                due("cause(" + p + ", " + k + ", " + what + ")", x.cause(p, k, what), slow.cause(p, k, what));
+                agree("cause(" + p + ", " + k + ", " + what + ")", x.cause(p, k, what), slow.cause(p, k, what));
             }
             case 6 -> {
                 int v = place();
-                due("chop(" + p + ", " + v + ")", x.chop(p, v), slow.chop(p, v));
+                agree("chop(" + p + ", " + v + ")", x.chop(p, v), slow.chop(p, v));
             }
             default -> {
                 int u = place();
-                due("way(" + p + ", " + u + ")", x.way(p, u), slow.way(p, u));
+                agree("way(" + p + ", " + u + ")", x.way(p, u), slow.way(p, u));
                 for (int k = -1; k < 6; k++) {
-                    due("on(" + k + ")", x.on(k), slow.on(k));
+                    agree("on(" + k + ")", x.on(k), slow.on(k));
                 }
             }
         }
