@@ -5,6 +5,7 @@ public final class SliceWhy {
     private static final int MOST_PLACES = 24, MOST_STEPS = 100, MOST_TESTS = 3;
     private static final int REGISTERS = 8, INPUTS = 4, ROWS = 4, ITEMS = 8, NAMES = 4, GLOBALS = 4;
     private static final int ALL_ROWS = 15;
+    private static final int ROW_CHOOSER = 3, ALL_BUT_SIGN = 0x7fffffff;
 
     private static final int PASS = 0, NUMBER = 1, INPUT = 2, ADD = 3, LESS = 4, TIMES = 5, SHARE = 6;
     private static final int PUT = 7, GET = 8, USE = 9, SET = 10, IF = 11, GO = 12, STOP = 13;
@@ -461,7 +462,7 @@ public final class SliceWhy {
                 globals[g] = program.starts[g];
             }
             for (int name = 0; name < NAMES; name++) {
-                rowOf[name] = chosenRow(program.mayBe[name], inputs[3] & Integer.MAX_VALUE);
+                rowOf[name] = chosenRow(program.mayBe[name], inputs[ROW_CHOOSER] & ALL_BUT_SIGN);
             }
             toldCount = 0;
             steps = 0;
